@@ -399,7 +399,7 @@ public final class FractalMaps {
     }
 
     private static int domainsAcross(int side, int size) {
-        return size < 1 ? 0 : Math.max(0, side / size - 1);
+        return size < 1 || size > side ? 0 : side / size - 1;
     }
 
     private static int domainsOf(int side, int size) {
@@ -445,7 +445,7 @@ public final class FractalMaps {
         }
 
         int sample(int x, int y) {
-            return has(x, y) ? cells[y * side + x] : 0;
+            return x >= 0 && x < side && y >= 0 && y < side ? cells[y * side + x] : 0;
         }
 
         void set(int x, int y, int sample) {
@@ -478,17 +478,13 @@ public final class FractalMaps {
             return sum;
         }
 
-        int quarterSum(int left, int top, int size, int quarter) {
-            int part = size / 2;
-            return sum(left + acrossOf(quarter) * part, top + downOf(quarter) * part, part);
-        }
-
         /** The CLASS of a square. */
         int brightestQuarter(int left, int top, int size) {
+            int part = size / 2;
             int brightest = 0;
             int greatest = NONE;
             for (int quarter = 0; quarter < 4; quarter++) {
-                int sum = quarterSum(left, top, size, quarter);
+                int sum = sum(left + acrossOf(quarter) * part, top + downOf(quarter) * part, part);
                 if (sum > greatest) {
                     greatest = sum;
                     brightest = quarter;
@@ -760,10 +756,11 @@ public final class FractalMaps {
         /** Sums that no turn changes; answers the greatest of the four quarters. */
         private int measure(int domain) {
             view.aim(size, domain, 0);
+            int part = size / 2;
             int greatest = 0;
             foundSum = 0;
             for (int quarter = 0; quarter < 4; quarter++) {
-                int sum = half.quarterSum(view.left, view.top, size, quarter);
+                int sum = half.sum(view.left + acrossOf(quarter) * part, view.top + downOf(quarter) * part, part);
                 quarterSums[quarter] = sum;
                 foundSum += sum;
                 greatest = Math.max(greatest, sum);
@@ -779,8 +776,9 @@ public final class FractalMaps {
         }
 
         private void tryTurn(int domain, int turn) {
-            takeDomain(domain, turn);
-            int contrast = contrast();
+            view.aim(size, domain, turn);
+            takeDomain();
+            int contrast = contrastWanted();
             int sum = 0;
             int squares = 0;
             for (int i = 0; i < count; i++) {
@@ -796,8 +794,7 @@ public final class FractalMaps {
             }
         }
 
-        private void takeDomain(int domain, int turn) {
-            view.aim(size, domain, turn);
+        private void takeDomain() {
             int i = 0;
             for (int y = 0; y < size; y++) {
                 for (int x = 0; x < size && i < found.length; x++) {
@@ -807,9 +804,9 @@ public final class FractalMaps {
             }
         }
 
-        private int contrast() {
-            long even = (long) count * foundSquares - (long) foundSum * foundSum;
-            if (even <= 0) {
+        private int contrastWanted() {
+            long spread = (long) count * foundSquares - (long) foundSum * foundSum;
+            if (spread <= 0) {
                 return 0;
             }
             long products = 0;
@@ -817,7 +814,7 @@ public final class FractalMaps {
                 products += (long) wanted[i] * found[i];
             }
             long alike = count * products - (long) foundSum * wantedSum;
-            return (int) brought(nearest(8 * alike, even), -STEEPEST, STEEPEST);
+            return (int) brought(nearest(8 * alike, spread), -STEEPEST, STEEPEST);
         }
     }
 }
