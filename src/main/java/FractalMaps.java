@@ -699,11 +699,11 @@ public final class FractalMaps {
         private final int[] wanted;
         private final int[] found;
         private final int[] quarterSums;
+        private final int[] sourceQuarters;
         private final Fit best;
         private int tried;
         private int size;
         private int count;
-        private int kindWanted;
         private int wantedSum;
         private int foundSum;
         private int foundSquares;
@@ -716,6 +716,7 @@ public final class FractalMaps {
             wanted = new int[room];
             found = new int[room];
             quarterSums = new int[4];
+            sourceQuarters = new int[TURNS];
             best = new Fit();
         }
 
@@ -731,7 +732,7 @@ public final class FractalMaps {
             for (int domain = 0; domain < domains; domain++) {
                 int greatest = measure(domain);
                 for (int turn = 0; turn < TURNS; turn++) {
-                    if (quarterSums[View.sourceQuarter(turn, kindWanted) & 3] == greatest) {
+                    if (quarterSums[sourceQuarters[turn] & 3] == greatest) {
                         tried++;
                         tryTurn(domain, turn);
                     }
@@ -742,7 +743,10 @@ public final class FractalMaps {
         private void takeBlock(int left, int top, int blockSize) {
             size = blockSize;
             count = Math.min(blockSize * blockSize, wanted.length);
-            kindWanted = picture.brightestQuarter(left, top, blockSize);
+            int brightest = picture.brightestQuarter(left, top, blockSize);
+            for (int turn = 0; turn < TURNS; turn++) {
+                sourceQuarters[turn] = View.sourceQuarter(turn, brightest);
+            }
             wantedSum = picture.sum(left, top, blockSize);
             int i = 0;
             for (int y = 0; y < blockSize; y++) {

@@ -338,16 +338,15 @@ public final class PromisesTest {
         due("9: 0 bits fill", m.read(), 4);
         feedBits(m, "010" + (FLAT).repeat(4));
         due("9: no bit for the least size", m.read(), 4);
-        exactlyEightBitsLeft();
+        bitsThatFill();
     }
 
-    /** 3 + 3 * 17 + 1 + ... never ends at a byte by itself at this side, but at a side of 16 it may. */
-    private static void exactlyEightBitsLeft() {
-        // 3 + 4 * 1 + 4 * 17 is 75; each square split into four adds 4 * 21 - 17, or 67: 2 of them are 209, 7 bits of 216.
+    private static void bitsThatFill() {
+        // 3 + 4 * 18 bits; a square of 8 that is split has 1 + 4 * 22 instead of 18: three of them end with a byte.
         for (int split = 0; split <= 4; split++) {
-            StringBuilder bits = new StringBuilder("010");
+            StringBuilder bits = new StringBuilder("001");
             for (int k = 0; k < 4; k++) {
-                bits.append(k < split ? "1" + ("0000" + FLAT).repeat(4) : "0" + FLAT);
+                bits.append(k < split ? "1" + ("0 0000" + FLAT).repeat(4) : "0" + FLAT);
             }
             String packed = bits.toString().replace(" ", "");
             int filling = (8 - packed.length() % 8) % 8;
@@ -356,7 +355,7 @@ public final class PromisesTest {
             due("9: " + filling + " bits that fill", m.read(), 4 + 3 * split);
             feedBits(m, packed);
             m.feed(0);
-            due("9: eight bits or more", m.read(), -5);
+            due("9: " + (filling + 8) + " bits left", m.read(), -5);
             if (filling > 0) {
                 feedBits(m, packed + "0".repeat(filling - 1) + "1");
                 due("9: a bit that is 1", m.read(), -5);
@@ -622,7 +621,7 @@ public final class PromisesTest {
         slope.put(7, 0, 70);
         slope.put(0, 7, 20);
         due("15: blocks", slope.encode(2, 0), 16);
-        // four of size 4 with one domain, sixteen of size 2 with nine, none with equal quarters but what the put ones do
+        // four blocks of size 4 with one domain, sixteen of size 2 with nine
         due("15: two turns each", slope.tried(), 4 * 2 + 16 * 9 * 2);
     }
 
