@@ -43,8 +43,13 @@ public final class FaceTest {
         Set<String> names = new TreeSet<>();
         for (Method method : FractalMaps.class.getDeclaredMethods()) {
             take(have, method.getModifiers(), method.toString());
-            if (!names.add(method.getName())) {
-                wrong("two methods are called " + method.getName());
+            if (Modifier.isPublic(method.getModifiers())) {
+                names.add(method.getName());
+            }
+        }
+        for (Method method : FractalMaps.class.getDeclaredMethods()) {
+            if (!Modifier.isPublic(method.getModifiers()) && names.contains(method.getName())) {
+                wrong("a method that is not public bears the name " + method.getName());
             }
         }
         for (String one : want) {

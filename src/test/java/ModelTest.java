@@ -1,14 +1,20 @@
 import java.util.ArrayList;
 import java.util.List;
 import java.util.Random;
+import java.util.Set;
 
 /**
  * Runs of many calls, with wrong inputs among them, on the class and on a slow model of the document that is
  * written another way (pictures as tables that are really turned, bits as text): both must answer alike.
+ * No object is used for more than the document's 512 calls: a new one does again what changed the one before.
  */
 public final class ModelTest {
     private static int wrong = 0;
     private static long calls = 0;
+    private static final Set<String> CHANGING =
+        Set.of("put", "paint", "encode", "feed", "pass", "read", "decode", "clear");
+    private static final int MOST_CALLS = 512;
+    private static final int MOST_CHANGES = 380;
     private static final int[] refusals = new int[5];
     private static int read = 0;
 
@@ -36,20 +42,20 @@ public final class ModelTest {
         Random random = new Random(seed);
         int number = seed % 12 == 0 ? random.nextInt() : random.nextInt(100) < 12 ? 3 : random.nextInt(3);
         Pair pair = new Pair(seed, number);
-        int encodings = 0;
-        int decodings = 0;
+        int encodings = pair.model.side == 32 ? 2 : 8;
+        int decodings = pair.model.side == 32 ? 3 : 8;
         picture(pair, random);
-        while (pair.used < 480) {
+        for (int i = 0; i < 280 && pair.changes.size() < MOST_CHANGES; i++) {
             int which = random.nextInt(100);
-            if (which < 8 && encodings < 8) {
-                encodings++;
+            if (which < 8 && encodings > 0) {
+                encodings--;
                 pair.call("encode", least(random, pair.model.side), bound(random));
-                everything(pair);
-            } else if (which < 16 && decodings < 8) {
-                decodings++;
+                everything(pair, random, 200);
+            } else if (which < 16 && decodings > 0) {
+                decodings--;
                 pair.call("decode", random.nextInt(8) == 0 ? odd(random) : 1 + random.nextInt(12), near(random, 0, 1));
                 pair.call("missed");
-                pair.compareShown();
+                pair.compareShown(random, 200);
             } else if (which < 30) {
                 reading(pair, random);
             } else if (which < 33) {
@@ -61,6 +67,8 @@ public final class ModelTest {
                 small(pair, random, which);
             }
         }
+        everything(pair, random, 1000);
+        pair.compareShown(random, 1000);
     }
 
     private static void small(Pair pair, Random random, int which) {
@@ -101,7 +109,8 @@ public final class ModelTest {
             pair.call("paint", random.nextInt(256), random.nextInt(41) - 20, random.nextInt(41) - 20);
         }
         int kind = random.nextInt(4);
-        int puts = kind == 0 ? 0 : kind == 1 ? side : Math.min(side * side, 200);
+        int room = Math.max(0, MOST_CHANGES - 100 - pair.changes.size());
+        int puts = Math.min(room, kind == 0 ? 0 : kind == 1 ? side : Math.min(side * side, 200));
         for (int i = 0; i < puts; i++) {
             int v = random.nextInt(3) == 0 ? random.nextInt(2) * 255 : random.nextInt(256);
             pair.call("put", kind == 3 ? i % side : random.nextInt(side), kind == 3 ? i / side : random.nextInt(side), v);
@@ -126,7 +135,7 @@ public final class ModelTest {
             while (text.length() % 8 != 0) {
                 text.append(random.nextInt(60) == 0 ? '1' : '0');
             }
-            int most = 8 * Math.max(0, 470 - pair.used);
+            int most = 8 * Math.max(0, MOST_CHANGES - pair.changes.size());
             for (int i = 0; i + 8 <= text.length() && i < most; i += 8) {
                 pair.call("feed", Integer.parseInt(text.substring(i, i + 8), 2));
             }
@@ -142,7 +151,7 @@ public final class ModelTest {
             refusals[(int) (-1 - answer)]++;
         }
         pair.call("told", 1);
-        everything(pair);
+        everything(pair, random, 60);
     }
 
     private static String madeUp(Model model, Random random) {
@@ -171,13 +180,13 @@ public final class ModelTest {
         text.append(Model.binary(random.nextInt(1024), 10));
     }
 
-    private static void everything(Pair pair) {
+    private static void everything(Pair pair, Random random, int most) {
         pair.call("tried");
         for (int what = 0; what < 5; what++) {
             pair.call("told", what);
         }
-        pair.compareBlocks();
-        pair.compareBytes();
+        pair.compareBlocks(random, most);
+        pair.compareBytes(random, most);
     }
 
     private static int least(Random random, int side) {
@@ -212,17 +221,23 @@ public final class ModelTest {
     /** The class and the model, side by side. */
     private static final class Pair {
         final int seed;
-        final FractalMaps maps;
+        final int number;
         final Model model;
+        final List<Object[]> changes = new ArrayList<>();
+        FractalMaps maps;
         int used = 0;
 
         Pair(int seed, int number) {
             this.seed = seed;
+            this.number = number;
             maps = new FractalMaps(number);
             model = new Model(number);
         }
 
         long call(String name, int... a) {
+            if (used == MOST_CALLS) {
+                renew();
+            }
             used++;
             calls++;
             String got = answer(false, name, a);
@@ -232,7 +247,19 @@ public final class ModelTest {
                 System.out.println("run " + seed + ", call " + used + ": " + name + java.util.Arrays.toString(a)
                     + " answered " + got + ", due is " + want);
             }
-            return want.startsWith("throws") ? Long.MIN_VALUE : Long.parseLong(want);
+            boolean thrown = want.startsWith("throws");
+            if (!thrown && CHANGING.contains(name)) {
+                changes.add(new Object[] {name, a});
+            }
+            return thrown ? Long.MIN_VALUE : Long.parseLong(want);
+        }
+
+        private void renew() {
+            maps = new FractalMaps(number);
+            for (Object[] change : changes) {
+                answer(false, (String) change[0], (int[]) change[1]);
+            }
+            used = changes.size();
         }
 
         private String answer(boolean ofModel, String name, int[] a) {
@@ -285,32 +312,33 @@ public final class ModelTest {
             }
         }
 
-        /** Calls that only look are not counted: the class answers them beyond the 512 calls of the document, too. */
-        void compareBlocks() {
-            int before = used;
-            for (int k = 0; k < model.blocks.size(); k++) {
-                for (int what = 0; what < 8; what++) {
-                    call("block", k, what);
-                }
+        void compareBlocks(Random random, int most) {
+            int facts = 8 * model.blocks.size();
+            for (int i : some(random, facts, most)) {
+                call("block", i / 8, i % 8);
             }
-            used = before;
         }
 
-        void compareBytes() {
-            int before = used;
-            for (int i = 0; i <= model.encoded.length() / 8; i++) {
+        void compareBytes(Random random, int most) {
+            for (int i : some(random, model.encoded.length() / 8 + 1, most)) {
                 call("byteAt", i);
             }
-            used = before;
         }
 
-        void compareShown() {
-            int before = used;
+        void compareShown(Random random, int most) {
             int side = model.shown == null ? 0 : model.shown.length;
-            for (int i = 0; i < side * side; i++) {
+            for (int i : some(random, side * side, most)) {
                 call("at", i % side, i / side);
             }
-            used = before;
+        }
+
+        /** All numbers below the count, or as many of them as may be. */
+        private static int[] some(Random random, int count, int most) {
+            int[] numbers = new int[Math.min(count, most)];
+            for (int i = 0; i < numbers.length; i++) {
+                numbers[i] = count <= most ? i : random.nextInt(count);
+            }
+            return numbers;
         }
     }
 

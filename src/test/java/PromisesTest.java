@@ -1,12 +1,5 @@
 /** One or more tests for each promise: ordinary inputs, the edges that the document names, wrong inputs. */
-public final class PromisesTest {
-    private static int wrong = 0;
-    private static int checks = 0;
-
-    private interface Call {
-        long answer();
-    }
-
+public final class PromisesTest extends Checks {
     public static void main(String[] args) {
         promise1ANewObject();
         promise2Put();
@@ -32,10 +25,7 @@ public final class PromisesTest {
         promise15Tried();
         promise16Told();
         promise17Clear();
-        System.out.println(wrong == 0 ? checks + " checks, all as due" : wrong + " of " + checks + " not as due");
-        if (wrong != 0) {
-            System.exit(1);
-        }
+        end();
     }
 
     private static void promise1ANewObject() {
@@ -203,7 +193,7 @@ public final class PromisesTest {
         due("6: reading leaves what was encoded", m.byteAt(0), 34);
         m.paint(0, 0, 0);
         m.encode(2, 0);
-        bitsAre("6: even grey", m, new StringBuilder("001" + "00001110100000000".repeat(4)));
+        bitsAre("6: even grey", m, "001" + "00001110100000000".repeat(4));
     }
 
     private static void promise6BitsOfSplitSquares() {
@@ -217,14 +207,14 @@ public final class PromisesTest {
             bits.append(number(m.block(k, 3), 4)).append(number(m.block(k, 4), 3));
             bits.append(number(m.block(k, 5) + 7, 4)).append(number(m.block(k, 6) + 256, 10));
         }
-        bitsAre("6: split", m, bits);
+        bitsAre("6: split", m, bits.toString());
         m.encode(2, Integer.MAX_VALUE);
         bits = new StringBuilder("001");
         for (int k = 0; k < 4; k++) {
             bits.append('0').append(number(m.block(k, 4), 3));
             bits.append(number(m.block(k, 5) + 7, 4)).append(number(m.block(k, 6) + 256, 10));
         }
-        bitsAre("6: not split", m, bits);
+        bitsAre("6: not split", m, bits.toString());
         int[][] most = {{0, 9}, {1, 43}, {2, 187}, {3, 811}};
         for (int[] one : most) {
             FractalMaps full = new FractalMaps(one[0]);
@@ -669,102 +659,5 @@ public final class PromisesTest {
         for (int i = 0; i < bytes.length; i++) {
             due("17: byte " + i + " as from a new object", m.byteAt(i), bytes[i]);
         }
-    }
-
-    private static FractalMaps gradient4() {
-        FractalMaps m = new FractalMaps(0);
-        m.paint(10, 20, 30);
-        return m;
-    }
-
-    /** A picture of side 8 in which no square of 4 is like the whole. */
-    private static FractalMaps rough8() {
-        FractalMaps m = new FractalMaps(1);
-        noise(m);
-        return m;
-    }
-
-    private static void noise(FractalMaps m) {
-        int seed = 12345;
-        for (int y = 0; y < m.told(0); y++) {
-            for (int x = 0; x < m.told(0); x++) {
-                seed = seed * 1103515245 + 12345;
-                m.put(x, y, seed >>> 16 & 255);
-            }
-        }
-    }
-
-    private static void square(FractalMaps m, int left, int top, int size, int v) {
-        for (int i = 0; i < size * size; i++) {
-            m.put(left + i % size, top + i / size, v);
-        }
-    }
-
-    private static void feedBits(FractalMaps m, String text) {
-        String bits = text.replace(" ", "");
-        for (int i = 0; i < bits.length(); i += 8) {
-            String part = (bits + "0000000").substring(i, i + 8);
-            m.feed(Integer.parseInt(part, 2));
-        }
-    }
-
-    private static String number(int v, int width) {
-        String text = Integer.toBinaryString(v);
-        return "0".repeat(width - text.length()) + text;
-    }
-
-    private static void bitsAre(String name, FractalMaps m, StringBuilder bits) {
-        int bytes = (bits.length() + 7) / 8;
-        due(name + ", bytes", m.told(2), bytes);
-        bits.append("0000000");
-        for (int i = 0; i < bytes; i++) {
-            due(name + ", byte " + i, m.byteAt(i), Integer.parseInt(bits.substring(8 * i, 8 * i + 8), 2));
-        }
-    }
-
-    private static void facts(String name, FractalMaps m, int k, int... facts) {
-        for (int what = 0; what < 8; what++) {
-            due(name + ", what " + what, m.block(k, what), facts[what]);
-        }
-    }
-
-    private static void due(String name, long got, long want) {
-        checks++;
-        if (got != want) {
-            wrong++;
-            System.out.println(name + ": answered " + got + ", due is " + want);
-        }
-    }
-
-    private static void index(String name, Call call) {
-        thrown(name, IndexOutOfBoundsException.class, call);
-    }
-
-    private static void argument(String name, Call call) {
-        thrown(name, IllegalArgumentException.class, call);
-    }
-
-    private static void state(String name, Call call) {
-        thrown(name, IllegalStateException.class, call);
-    }
-
-    private static void unsupported(String name, Call call) {
-        thrown(name, UnsupportedOperationException.class, call);
-    }
-
-    /** The class itself, not one below it: an ArrayIndexOutOfBoundsException would be the machine's. */
-    private static void thrown(String name, Class<?> want, Call call) {
-        checks++;
-        String got;
-        try {
-            got = "answered " + call.answer();
-        } catch (RuntimeException e) {
-            if (e.getClass() == want) {
-                return;
-            }
-            got = "threw " + e.getClass().getName();
-        }
-        wrong++;
-        System.out.println(name + ": " + got + ", due is throws." + want.getSimpleName());
     }
 }
