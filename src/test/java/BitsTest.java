@@ -222,7 +222,25 @@ public final class BitsTest extends Checks {
                 due("all " + bytes + " bytes", m.read(), 4 + 3 * (number - i));
             }
         }
+        bitsBeforeTheOneThatLacks();
         oneBitLacks();
+    }
+
+    /** What is there of the number that ends too early is all 1: it is not taken for another number. */
+    private static void bitsBeforeTheOneThatLacks() {
+        for (int number = 0; number < 4; number++) {
+            int[] fields = {DOMAIN_BITS[number][0], 3, 4, 10};
+            String whole = number(1, 3) + "1".repeat(number);
+            for (int k = 0; k < 4; k++) {
+                for (int width : fields) {
+                    int have = (8 - whole.length() % 8) % 8;
+                    if (have < width) {
+                        refused(have + " of " + width + " bits", number, whole + "1".repeat(have), 3);
+                    }
+                    whole += width == 4 ? "0111" : "0".repeat(width);
+                }
+            }
+        }
     }
 
     private static void oneBitLacks() {

@@ -12,6 +12,7 @@ public final class TermsTest extends Checks {
         turnedByEachTurn();
         classIsOfEqualOnesTheLeast();
         searchedByAllDomainsAndTurns();
+        searchedOverAllItsSamples();
         triedIsAGreatestSum();
         triedIsByTheBlocksClass();
         contrastOfTwoTheGreater();
@@ -207,6 +208,31 @@ public final class TermsTest extends Checks {
                 }
             }
         }
+    }
+
+    /** "over all n n samples": a block that is made from one domain by one turn, with others all round, finds it. */
+    private static void searchedOverAllItsSamples() {
+        int[][] kinds = {{1, 2, 9}, {2, 2, 49}, {2, 4, 9}, {3, 2, 225}, {3, 4, 49}, {3, 8, 9}};
+        for (int[] kind : kinds) {
+            int across = SIDES[kind[0]] / kind[1] - 1;
+            // The first row and column of domains have samples of the block itself.
+            int[] domains = {across + 1, 2 * across - 1, kind[2] / 2, kind[2] - across + 1, kind[2] - 1};
+            for (int i = 0; i < domains.length; i++) {
+                oneDomain(kind[0], kind[1], domains[i], (kind[1] + 3 * i) % 8, 7 - i % 2);
+            }
+        }
+    }
+
+    private static void oneDomain(int number, int size, int domain, int turn, int contrast) {
+        FractalMaps m = new FractalMaps(number);
+        noise(m);
+        for (int i = 0; i < size * size; i++) {
+            int d = m.domain(size, domain, turn, i % size, i / size);
+            m.put(i % size, i / size, contrast * d / 8 + 11);
+        }
+        m.encode(size, 0);
+        String name = "side " + SIDES[number] + " size " + size + " domain " + domain;
+        facts(name, m, 0, 0, 0, size, domain, turn, contrast, 11, 0);
     }
 
     /** "has a greatest sum of theirs": each of the equal ones is. */
