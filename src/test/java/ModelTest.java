@@ -17,6 +17,7 @@ public final class ModelTest {
     private static final int MOST_CHANGES = 380;
     private static final int[] refusals = new int[5];
     private static int read = 0;
+    private static int filled = 0;
 
     public static void main(String[] args) {
         for (int seed = 1; seed <= 240 && wrong < 20; seed++) {
@@ -31,6 +32,10 @@ public final class ModelTest {
         if (read == 0) {
             wrong++;
             System.out.println("no run read anything");
+        }
+        if (filled == 0) {
+            wrong++;
+            System.out.println("no run had as much to be read as may be");
         }
         System.out.println(wrong == 0 ? calls + " calls, all as due" : wrong + " answers not as due");
         if (wrong != 0) {
@@ -140,6 +145,9 @@ public final class ModelTest {
                 pair.call("feed", Integer.parseInt(text.substring(i, i + 8), 2));
             }
         }
+        if (how == 4) {
+            fill(pair, random);
+        }
         if (random.nextInt(6) == 0) {
             pair.call("feed", random.nextInt(3) - 1);
         }
@@ -152,6 +160,26 @@ public final class ModelTest {
         }
         pair.call("told", 1);
         everything(pair, random, 60);
+    }
+
+    /** Up to what may be to be read, and a little beyond, where few enough calls do. */
+    private static void fill(Pair pair, Random random) {
+        int bytes = pair.model.encoded.length() / 8;
+        if (bytes < 40 || pair.changes.size() > MOST_CHANGES - 150) {
+            return;
+        }
+        while (pair.call("pass") >= 0) {
+            pair.call("told", 3);
+        }
+        int room = 2000 - pair.model.waiting.length() / 8;
+        for (int i = 0; i < Math.min(room + 2, 80); i++) {
+            pair.call("feed", random.nextInt(256));
+        }
+        if (room < 79) {
+            filled++;
+        }
+        pair.call("feed", 256);
+        pair.call("pass");
     }
 
     private static String madeUp(Model model, Random random) {
